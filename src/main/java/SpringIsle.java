@@ -17,14 +17,18 @@ public final class SpringIsle {
 
     private final Rows rows = new Rows();
     private final Tape tape = new Tape();
-    private final Isle now = new Isle();
+    private final Isle now;
     private final Acts acts = new Acts();
-    private final Seer seer = new Seer(now);
-    private final Bodies bodies = new Bodies(now);
+    private final Seer seer;
+    private final Bodies bodies;
     private final Isle[] images = {new Isle(), new Isle()};
     private int latestFinding = FOUND_NOTHING;
 
     public SpringIsle() {
+        Isle none = new Isle();
+        now = none;
+        seer = new Seer(none);
+        bodies = new Bodies(none);
     }
 
     // ---- rows

@@ -645,6 +645,14 @@ public final class PromisesTest {
         x.send(2, 1);
         due("recall(2, 40, 0)", x.recall(2, 40, 0), 2);
         due("recall(2, 40, 1)", x.recall(2, 40, 1), 3);
+        x = told("i2,1,0;h5;o9,1;o1,1;o1,1;o9,9;");
+        for (int b = 0; b < 3; b++) x.send(b, 1);
+        due("recall(0, 9, 0), others are faster", x.recall(0, 9, 0), 2);
+        due("recall(0, 9, 1), others are faster", x.recall(0, 9, 1), 6);
+        due("recall(0, 4, 0), too far off", x.recall(0, 4, 0), NONE);
+        due("recall(0, 5, 0)", x.recall(0, 5, 0), 2);
+        x = told(ALWAYS);
+        for (int b = 0; b < 3; b++) x.send(b, 1);
         part = "promise 28";
         due("fleet(0, 9) without an ISLE", new SpringIsle().fleet(0, 9), STATE);
         due("fleet(1, 0)", x.fleet(1, 0), 1);

@@ -25,29 +25,57 @@ public final class RandomRunsTest {
 
     private static boolean runAgrees(int seed) throws Exception {
         Random random = new Random(seed);
-        SpringIsle real = new SpringIsle();
-        Model model = new Model();
-        List<String> calls = new ArrayList<>();
+        Run run = new Run();
         Method[] methods = publicMethods();
-        int left = CALLS;
-        while (left > 0) {
-            if (random.nextInt(40) == 0 || left == CALLS) {
-                for (char c : Texts.any(random).toCharArray()) {
-                    if (left-- > 0 && !agrees(real, model, "feed", new Object[] {(int) c}, calls)) return false;
-                }
-                if (left-- > 0 && !agrees(real, model, "isle", new Object[0], calls)) return false;
-                continue;
-            }
-            left--;
-            Method method = methods[random.nextInt(methods.length)];
-            if (rarely(method.getName()) && random.nextInt(8) != 0) method = methods[random.nextInt(methods.length)];
-            if (!agrees(real, model, method.getName(), arguments(method, random), calls)) return false;
+        while (run.agree && run.calls.size() < CALLS) {
+            int scene = random.nextInt(60);
+            if (run.calls.isEmpty() ? scene != 0 : scene == 0) tellText(run, random);
+            else if (scene < 4) sendMany(run, random);
+            else if (scene < 8) tellOwners(run, random);
+            else callAny(run, methods[random.nextInt(methods.length)], random);
         }
-        return true;
+        return run.agree;
     }
 
-    private static boolean rarely(String name) {
-        return name.equals("isle") || name.equals("feed") || name.equals("restore") || name.equals("drop");
+    private static void tellText(Run run, Random random) throws Exception {
+        for (char c : Texts.any(random).toCharArray()) run.call("feed", (int) c);
+        run.call("isle");
+    }
+
+    private static void sendMany(Run run, Random random) throws Exception {
+        for (int b = 0; b < run.model.count(2); b++) {
+            if (random.nextInt(4) != 0) run.call("send", b, 1);
+        }
+    }
+
+    /** A row of owners as they come if one thing is otherwise, and what is asked by it. */
+    private static void tellOwners(Run run, Random random) throws Exception {
+        if (run.model.sea == null) return;
+        Sea then = run.model.sea.twin();
+        int boats = then.boats.size();
+        int boat = random.nextInt(boats);
+        int how = random.nextInt(4);
+        if (how == 0) then.wind = random.nextInt(4);
+        if (how == 1) then.boats.get(boat).speed = 1 + random.nextInt(9);
+        if (how == 2) then.boats.get(boat).sent = false;
+        int row = random.nextInt(3);
+        int n = 1 + random.nextInt(random.nextBoolean() ? 5 : 12);
+        run.call("row", row, random.nextInt(3), n);
+        for (int k = 0; k < n; k++) run.call("set", row, k, then.on(1).ownerNumber(-1));
+        for (int which = 0; which < 3; which++) run.call("who", boat, which, row, 0, n);
+        run.call("barred", row, 0, n);
+    }
+
+    private static void callAny(Run run, Method method, Random random) throws Exception {
+        String name = method.getName();
+        boolean rare = name.equals("isle") || name.equals("feed") || name.equals("restore") || name.equals("drop");
+        if (rare && random.nextInt(8) != 0) return;
+        Object[] arguments = new Object[method.getParameterCount()];
+        for (int i = 0; i < arguments.length; i++) arguments[i] = argument(name, i, run.model, random);
+        if (arguments.length > 0 && random.nextInt(12) == 0) {
+            arguments[random.nextInt(arguments.length)] = ODD[random.nextInt(ODD.length)];
+        }
+        run.call(name, arguments);
     }
 
     private static Method[] publicMethods() {
@@ -59,55 +87,65 @@ public final class RandomRunsTest {
         return methods.toArray(new Method[0]);
     }
 
-    private static boolean agrees(SpringIsle real, Model model, String name, Object[] arguments, List<String> calls)
-            throws Exception {
-        Class<?>[] types = new Class<?>[arguments.length];
-        Arrays.fill(types, int.class);
-        long want = ((Number) Model.class.getDeclaredMethod(name, types).invoke(model, arguments)).longValue();
-        String call = name + Arrays.toString(arguments);
-        calls.add(call + " = " + want);
-        try {
-            long got = ((Number) SpringIsle.class.getDeclaredMethod(name, types).invoke(real, arguments)).longValue();
-            if (got == want) return true;
-            System.out.println(String.join("\n", calls));
-            System.out.println(call + " answered " + got + ", due is " + want);
-        } catch (InvocationTargetException e) {
-            System.out.println(String.join("\n", calls));
-            System.out.println(call + " threw " + e.getCause());
-        }
-        return false;
-    }
-
-    private static Object[] arguments(Method method, Random random) {
-        Object[] arguments = new Object[method.getParameterCount()];
-        for (int i = 0; i < arguments.length; i++) arguments[i] = argument(method.getName(), i, random);
-        return arguments;
-    }
-
-    private static final int[] ODD = {-1, 6, 7, 8, 12, 13, 24, 25, 40, 41, 60, 61, 255, 256, 999999, 1000000,
+    private static final int[] ODD = {-1, 0, 6, 7, 8, 12, 13, 24, 25, 40, 41, 60, 61, 255, 256, 999999, 1000000,
         Integer.MAX_VALUE, Integer.MIN_VALUE, Integer.MAX_VALUE - 1, Integer.MIN_VALUE + 1};
 
-    private static int argument(String name, int i, Random random) {
-        if (random.nextInt(25) == 0) return ODD[random.nextInt(ODD.length)];
-        boolean far = "ahead1 held1 owner0 dry0 open0 first0 latest1 winds1 recall1 fleet0 sandFor0 wreck1 drawn0"
-            .matches(".*\\b" + name + i + "\\b.*");
-        if (far) return random.nextInt(random.nextInt(3) == 0 ? 63 : 14);
+    private static int argument(String name, int i, Model model, Random random) {
+        int some = random.nextInt(3) == 0 ? 40 : 12;
         switch (name + i) {
-            case "row2": return random.nextInt(16) - 1;
-            case "set1": case "copy1": case "copy3": case "who3": case "barred1": return random.nextInt(6) - 1;
-            case "set2": return random.nextInt(4) == 0 ? random.nextInt() : random.nextInt(8) - 2;
             case "row0": case "set0": case "copy0": case "copy2": case "drop0": case "who2": case "barred0":
                 return random.nextInt(4);
+            case "row1": case "who1": return random.nextInt(3);
+            case "row2": return random.nextInt(16);
+            case "set1": case "copy1": case "copy3": case "copy4": case "who3": case "barred1": return random.nextInt(5);
+            case "set2": return random.nextInt(4) == 0 ? random.nextInt() : random.nextInt(8) - 2;
             case "who4": case "barred2": return 1 + random.nextInt(5);
             case "feed0": return random.nextInt(256);
-            case "hours0": return random.nextInt(random.nextInt(5) == 0 ? 26 : 5);
-            case "sand1": return random.nextInt(random.nextInt(3) == 0 ? 43 : 9) - 4;
-            case "speed1": case "wreck2": return random.nextInt(12) - 1 + random.nextInt(2);
+            case "hours0": return 1 + random.nextInt(random.nextInt(5) == 0 ? 24 : 4);
+            case "sand1": return random.nextInt(random.nextInt(3) == 0 ? 41 : 9) - 4;
+            case "speed1": return 1 + random.nextInt(9);
+            case "wind0": return random.nextInt(4);
+            case "wreck2": return random.nextInt(11);
             case "drawn1": return 1 + random.nextInt(999999);
             case "send1": return random.nextInt(3) == 0 ? 0 : 1;
-            case "count0": return random.nextInt(9);
-            case "trace0": return random.nextInt(8);
-            default: return random.nextInt(6);
+            case "count0": return random.nextInt(8);
+            case "trace0": return random.nextInt(7);
+            case "boat1": case "stand0": case "as1": return random.nextInt(6);
+            case "cell0": case "sand0": return random.nextInt(Math.max(1, model.count(1)));
+            case "owner0": case "dry0": case "open0": case "first0": case "fleet0": case "sandFor0": case "drawn0":
+            case "ahead1": case "held1": case "latest1": case "winds1": case "recall1": case "wreck1":
+                return 1 + random.nextInt(some);
+            case "cell1": case "recall2": case "fleet1": case "wreck3": case "drawn2": case "image0": case "restore0":
+            case "ask1":
+                return random.nextInt(2);
+            default: return random.nextInt(Math.max(1, model.count(2)));
+        }
+    }
+
+    /** One object of the program beside the model, and what was called. */
+    private static final class Run {
+        final SpringIsle real = new SpringIsle();
+        final Model model = new Model();
+        final List<String> calls = new ArrayList<>();
+        boolean agree = true;
+
+        void call(String name, Object... arguments) throws Exception {
+            if (!agree || calls.size() >= CALLS) return;
+            Class<?>[] types = new Class<?>[arguments.length];
+            Arrays.fill(types, int.class);
+            long want = ((Number) Model.class.getDeclaredMethod(name, types).invoke(model, arguments)).longValue();
+            String call = name + Arrays.toString(arguments);
+            calls.add(call + " = " + want);
+            String got;
+            try {
+                got = "answered " + SpringIsle.class.getDeclaredMethod(name, types).invoke(real, arguments);
+            } catch (InvocationTargetException e) {
+                got = "threw " + e.getCause();
+            }
+            if (got.equals("answered " + want)) return;
+            agree = false;
+            System.out.println(String.join("\n", calls));
+            System.out.println(call + " " + got + ", due is " + want);
         }
     }
 
@@ -119,12 +157,13 @@ public final class RandomRunsTest {
             text.append(1 + random.nextInt(random.nextBoolean() ? 12 : 30)).append(',').append(random.nextInt(4)).append(';');
             int cells = 1 + random.nextInt(random.nextInt(12) == 0 ? 7 : 4);
             for (int c = 0; c < cells; c++) text.append('h').append(random.nextInt(random.nextBoolean() ? 31 : 8)).append(';');
-            int boats = 1 + random.nextInt(random.nextInt(6) == 0 ? 7 : 6);
+            int boats = 7 - random.nextInt(random.nextInt(6) == 0 ? 7 : 4) - random.nextInt(2);
+            if (boats < 1 || boats > 6 && random.nextInt(4) != 0) boats = 6;
             for (int b = 0; b < boats; b++) {
-                text.append("scofr".charAt(random.nextInt(5))).append(random.nextInt(random.nextInt(3) == 0 ? 61 : 8));
+                text.append("scofr".charAt(random.nextInt(5))).append(random.nextInt(random.nextInt(6) == 0 ? 61 : 12));
                 text.append(',').append(1 + random.nextInt(9)).append(';');
             }
-            if (random.nextInt(3) == 0) spoil(text, random);
+            if (random.nextInt(5) == 0) spoil(text, random);
             return text.toString();
         }
 
