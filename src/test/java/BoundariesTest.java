@@ -1248,6 +1248,12 @@ public final class BoundariesTest {
         for (int b = 0; b < 4; b++) x.send(b, 1);
         due("recall(3, 1, 1)", x.recall(3, 1, 1), 6);
         due("recall(3, 1, 0)", x.recall(3, 1, 0), 2);
+        // The next boat, and the last, come sooner, though their numbers are greater.
+        x = told("i2,1,0;h5;o9,1;o1,1;o20,1;o20,1;o20,1;o1,1;");
+        for (int b = 0; b < 6; b++) x.send(b, 1);
+        due("recall(0, 5, 1)", x.recall(0, 5, 1), 34);
+        due("recall(0, 5, 0)", x.recall(0, 5, 0), 2);
+        due("recall(0, 4, 0), not THERE yet", x.recall(0, 4, 0), NONE);
     }
 
     private static void fleetNumbers() {
