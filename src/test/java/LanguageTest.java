@@ -64,6 +64,10 @@ public final class LanguageTest {
         for (String method : FACE.split(" ")) names.add(method.substring(0, method.indexOf('/')));
         Class<?>[] inside = SpringIsle.class.getDeclaredClasses();
         check(inside.length <= 11, "rule 11, classes");
+        for (Method method : SpringIsle.class.getDeclaredMethods()) {
+            boolean bears = Modifier.isPrivate(method.getModifiers()) && names.contains(method.getName());
+            check(!bears, "rule 1, the name of " + method);
+        }
         for (Class<?> one : inside) {
             check(Modifier.isStatic(one.getModifiers()), "rule 2, " + one);
             check(one.getDeclaredClasses().length == 0, "rule 2, classes inside " + one);
